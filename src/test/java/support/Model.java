@@ -8,7 +8,8 @@ import java.util.regex.Pattern;
 
 /**
  * The document once more, told another way: whole states are kept rather than changes, ways are
- * found by trying all of them, texts are read by a pattern. Its answers are compared with the class's.
+ * found by going along all streets again and again, texts are read by a pattern. It was written with the class and
+ * reads the document the same way, so that it finds slips in the code, not misreadings.
  */
 public final class Model {
   private static final int BAD = -1, NO = -2, FULL = -3, NONE = -4;
